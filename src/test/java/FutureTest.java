@@ -16,6 +16,9 @@ public final class FutureTest {
         bestHintWithExitOpen();
         endsAt();
         endsAtEdges();
+        endsAtAsPlayed();
+        eachAskedAlone();
+        fullRoom();
         digest();
         CHECK.end();
     }
@@ -294,6 +297,89 @@ public final class FutureTest {
         endless.player(1);
         endless.begin();
         CHECK.due("without an exit", endless.endsAt(), -1);
+    }
+
+    /** What keeps, hides, breaks and lies there counts as in the game itself. */
+    private static void endsAtAsPlayed() {
+        CHECK.promise("Promise 27: endsAt");
+        LockRooms room = new LockRooms();
+        room.lock(1, 1, 5, false, false);
+        room.lock(1, 0, 30, false, false);
+        room.lock(2, 0, 7, false, true);
+        room.thing(-1, 9);
+        room.thing(0, 6);
+        room.player(2);
+        room.player(3);
+        room.begin();
+        int due = room.endsAt();
+        CHECK.due("with what is kept and hid", due, 9);
+        for (int minute = 1; minute < due; minute++) {
+            room.pass(1);
+            CHECK.due("at minute " + minute, room.endsAt(), due);
+            CHECK.due("runs at minute " + minute, room.many(4), 1);
+        }
+        room.pass(1);
+        CHECK.due("solved then", room.many(6), 1);
+        CHECK.due("at that time", room.many(5), due);
+        LockRooms kept = new LockRooms();
+        kept.lock(1, 1, 5, false, false);
+        kept.lock(1, 0, 5, false, true);
+        kept.thing(-1, 0);
+        kept.player(1);
+        kept.begin();
+        CHECK.due("as what it needs is kept first", kept.endsAt(), -1);
+    }
+
+    /** Each answer is due anew, whatever was asked before. */
+    private static void eachAskedAlone() {
+        LockRooms room = straight(3);
+        CHECK.promise("Promise 23: deadEnds");
+        CHECK.due("at first", room.deadEnds(), 0);
+        room.breaks(2);
+        CHECK.due("as the exit breaks", room.deadEnds(), 3);
+        room.repair(2);
+        CHECK.promise("Promise 22: stands");
+        CHECK.due("as it is repaired", room.stands(), 4);
+        CHECK.promise("Promise 26: bestHint");
+        room.lock(0, 0, 5, false, true);
+        CHECK.due("as another is the exit", room.bestHint(), 3);
+        LockRooms first = new LockRooms();
+        first.lock(0, 0, 5, false, true);
+        CHECK.due("the lock 0", first.bestHint(), 0);
+        CHECK.promise("Promise 24: depth");
+        CHECK.due("as yet another is", straight(5).depth(), 5);
+        CHECK.promise("Promise 21: canEnd");
+        room.breaks(3);
+        CHECK.due("as that breaks", room.canEnd(), false);
+    }
+
+    /** As many locks, things and players as there can be, from the beginning into order again. */
+    private static void fullRoom() {
+        LockRooms room = straight(10);
+        room.thing(9, 0);
+        room.thing(-1, 0);
+        for (int k = 0; k < 6; k++) {
+            room.player(9);
+        }
+        futureIs(room, true, 11, 0, 10);
+        CHECK.promise("Promises 21 to 28: a full room");
+        CHECK.due("cannotMiss()", room.cannotMiss(), 1023);
+        CHECK.due("digest()", room.digest(), digestOf(room));
+        room.begin();
+        CHECK.due("endsAt()", room.endsAt(), 4);
+        CHECK.due("opened", room.pass(3), 9);
+        CHECK.due("cut without magnets", room.power(false), 0);
+        CHECK.due("endsAt() then", room.endsAt(), 4);
+        CHECK.due("digest() then", room.digest(), digestOf(room));
+        CHECK.due("opened at last", room.pass(90), 1);
+        CHECK.due("solved", room.many(6), 1);
+        futureIs(room, true, 1, 0, 0);
+        for (int k = 0; k < 10; k++) {
+            CHECK.due("shut " + k, room.shut(k), 9);
+            CHECK.due("put " + k, room.put(k), 1);
+        }
+        CHECK.due("digest() in order again", room.digest(), digestOf(room));
+        futureIs(room, true, 11, 0, 10);
     }
 
     private static void digest() {

@@ -96,6 +96,13 @@ public final class GameTest {
         room.pass(1);
         CHECK.due("nothing to search", room.ofPlayer(0, 2), -1);
         CHECK.due("idled then", room.many(18), 8);
+        LockRooms slow = new LockRooms();
+        slow.thing(-1, 5);
+        slow.player(2);
+        slow.begin();
+        slow.pass(3);
+        CHECK.due("searched in each minute", slow.ofThing(0, 2), 6);
+        CHECK.due("found in the third", slow.ofThing(0, 3), 1);
     }
 
     private static void passWorks() {
