@@ -940,10 +940,11 @@ public final class LockRooms {
         }
 
         int findMusts(Room room) {
-            if (findDepth(room) == NONE) {
+            int open = room.openLocks();
+            explore(room, 0);
+            if (yetBehind(open) == NONE) {
                 return 0;
             }
-            int open = room.openLocks();
             int musts = 0;
             for (int k = 0; k < room.thingCount; k++) {
                 explore(room, 1 << k);
