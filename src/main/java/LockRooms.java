@@ -403,8 +403,7 @@ public final class LockRooms {
         int work;
         int hints;
         int wear;
-        /** How many worked at it in this minute. */
-        int workers;
+        int workersThisMinute;
 
         void copyFrom(Lock other) {
             needs = other.needs;
@@ -416,7 +415,7 @@ public final class LockRooms {
             work = other.work;
             hints = other.hints;
             wear = other.wear;
-            workers = other.workers;
+            workersThisMinute = other.workersThisMinute;
         }
 
         boolean isReady(int thingsAtHand) {
@@ -454,15 +453,14 @@ public final class LockRooms {
         int hid;
         int searched;
         int state;
-        /** Whether somebody searched it in this minute. */
-        boolean isTried;
+        boolean isSearchedThisMinute;
 
         void copyFrom(Thing other) {
             place = other.place;
             hid = other.hid;
             searched = other.searched;
             state = other.state;
-            isTried = other.isTried;
+            isSearchedThisMinute = other.isSearchedThisMinute;
         }
 
         boolean canBeReached(int openLocks) {
@@ -739,10 +737,10 @@ public final class LockRooms {
 
         private void forgetLastMinute() {
             for (int k = 0; k < lockCount; k++) {
-                locks[k].workers = 0;
+                locks[k].workersThisMinute = 0;
             }
             for (int k = 0; k < thingCount; k++) {
-                things[k].isTried = false;
+                things[k].isSearchedThisMinute = false;
             }
             for (int k = 0; k < playerCount; k++) {
                 players[k].rest();
@@ -770,7 +768,7 @@ public final class LockRooms {
         private int findWork() {
             int found = thingsIn(FOUND);
             for (int k = 0; k < lockCount; k++) {
-                if (locks[k].isReady(found) && locks[k].workers < MOST_WORKERS) {
+                if (locks[k].isReady(found) && locks[k].workersThisMinute < MOST_WORKERS) {
                     return k;
                 }
             }
@@ -780,7 +778,7 @@ public final class LockRooms {
         private int findSearch() {
             int open = openLocks();
             for (int k = 0; k < thingCount; k++) {
-                if (things[k].canBeReached(open) && !things[k].isTried) {
+                if (things[k].canBeReached(open) && !things[k].isSearchedThisMinute) {
                     return k;
                 }
             }
@@ -789,7 +787,7 @@ public final class LockRooms {
 
         /** Returns whether the lock was opened. */
         private boolean workAt(Lock lock, int number, int skill) {
-            lock.workers++;
+            lock.workersThisMinute++;
             lock.work += skill;
             if (lock.work < lock.hard) {
                 return false;
@@ -811,7 +809,7 @@ public final class LockRooms {
         }
 
         private void searchFor(Thing thing, int skill) {
-            thing.isTried = true;
+            thing.isSearchedThisMinute = true;
             thing.searched += skill;
             if (thing.searched > thing.hid) {
                 thing.state = FOUND;
